@@ -65,6 +65,27 @@ public final class P06DeliverTest {
         c.due("open(0) at 17", x.open(0), 4);
         x.tick(1);
         c.due("open(0) at 18", x.open(0), 0);
+        heardAgain(c);
+    }
+
+    private static void heardAgain(Check c) {
+        c.part("advert heard again");
+        RoamingNet x = new RoamingNet(20, 30, 2);
+        x.move(0, 1);
+        x.move(1, 4);
+        x.tick(4);
+        x.duplicate(0);
+        x.deliver(0);
+        x.tick(1);
+        x.deliver(0);
+        x.move(0, 4);
+        // Asked at 4 and every 3 ticks after that, heard until 5 + 12.
+        x.tick(11);
+        c.due("open(0) at 16", x.open(0), 5);
+        x.tick(2);
+        c.due("open(0) at 18", x.open(0), 5);
+        x.tick(1);
+        c.due("open(0) at 19", x.open(0), 0);
     }
 
     private static void advertOfAnAgentThatWasAsked(Check c) {
